@@ -684,7 +684,7 @@ public final class GridRows {
             fillGaps();
             part(code);
             for (int step = 2; step <= LONGEST_PARTING; step++) {
-                least = Math.min(least, advance(code));
+                least = advance(code, least);
             }
             return least;
         }
@@ -706,13 +706,13 @@ public final class GridRows {
             }
         }
 
-        /** Takes all pairs one step on and answers the least sum of those that come together by it. */
-        private int advance(Code code) {
+        /** Takes pairs one step on, but for those whose sum, as sums never fall, can no longer be the least. */
+        private int advance(Code code, int leastBefore) {
             Arrays.fill(laterSums, NEVER);
-            int least = NEVER;
+            int least = leastBefore;
             for (int a = 0; a < code.states(); a++) {
                 for (int b = 0; b < code.states(); b++) {
-                    if (sums[a * MOST_STATES + b] < NEVER) {
+                    if (sums[a * MOST_STATES + b] < least) {
                         least = Math.min(least, advancePair(code, a, b));
                     }
                 }
@@ -721,6 +721,7 @@ public final class GridRows {
             return least;
         }
 
+        /** Answers the least sum with which the pair comes together by this step. */
         private int advancePair(Code code, int a, int b) {
             int least = NEVER;
             for (int u = 0; u < BITS; u++) {
