@@ -501,6 +501,13 @@ public final class PromisesEdgesTest {
                 due("heard(0, 2) of " + place[0] + ", " + place[1], x.heard(0, 2), place[2]);
             }
         });
+        Edges.sentence("17: the POINT nearest to it (each, HEARD just so)", () -> {
+            for (int p = 0; p < 16; p++) {
+                GridRows x = new GridRows();
+                x.hear(x.point(p, 0), x.point(p, 1));
+                due("heard(0, 2)", x.heard(0, 2), p);
+            }
+        });
         Edges.sentence("17: the POINT nearest to it (as far away as can be)", () -> {
             int[][] places = {{-99, -99, 0}, {-99, 99, 3}, {99, -99, 12}, {99, 99, 15}};
             for (int[] place : places) {

@@ -530,6 +530,15 @@ public final class TermsEdgesTest {
             due("heard(23, 0)", x.heard(23, 0), 27);
             due("heard(23, 1)", x.heard(23, 1), 42);
         });
+        Edges.sentence("BY LOTS: X is the SEED at first (each time)", () -> {
+            GridRows x = new GridRows();
+            x.drift(2, 1);
+            x.drift(2, 1);
+            for (int k = 0; k < 2; k++) {
+                due("BIT of STEP " + (k + 2), x.sent(k + 2, 0), x.sent(k, 0));
+                due("CHOICE of STEP " + (k + 2), x.sent(k + 2, 1), x.sent(k, 1));
+            }
+        });
         Edges.sentence("BY LOTS: as long as there is room for both (to be SENT)", () -> room(Edges.sending(22), 2, 24, 2));
         Edges.sentence("BY LOTS: as long as there is room for both (to be HEARD)", () -> room(Edges.hearing(22), 2, 2, 24));
         Edges.sentence("BY LOTS: as long as there is room for both (none to be SENT)", () -> room(Edges.sending(24), 0, 24, 0));
@@ -614,6 +623,17 @@ public final class TermsEdgesTest {
         undoneCall("wipe()", GridRows::wipe);
         undoneCall("code()", x -> x.code(3, 15, 15));
         undoneCall("end()", x -> x.end(NONE));
+        Edges.sentence("UNDONE: what was SENT and HEARD otherwise meanwhile is as ahead of it", () -> {
+            GridRows x = Edges.busy();
+            x.wipe();
+            x.code(3, 15, 14);
+            x.drift(24, 6);
+            x.end(7);
+            for (int left = 7; left >= 4; left--) {
+                due("undo()", x.undo(), left);
+            }
+            busyAgain(x);
+        });
         Edges.sentence("UNDONE: a call that was not refused, though it changed nothing", () -> {
             GridRows x = new GridRows();
             x.wipe();
@@ -647,21 +667,27 @@ public final class TermsEdgesTest {
             call.on(x);
             due("told(13) behind it", x.told(13), 8);
             due("undo()", x.undo(), 7);
-            int[] told = {1, 1, 2, 2, 2, 3, 0, 1};
-            for (int what = 0; what < told.length; what++) {
-                due("told(" + what + ")", x.told(what), told[what]);
-            }
-            int[][] sent = {{1, 3}, {0, 1}};
-            int[][] heard = {{4, 5}, {6, 7}, {8, 9}};
-            for (int what = 0; what < 2; what++) {
-                for (int k = 0; k < 2; k++) {
-                    due("sent(" + k + ", " + what + ")", x.sent(k, what), sent[k][what]);
-                }
-                for (int k = 0; k < 3; k++) {
-                    due("heard(" + k + ", " + what + ")", x.heard(k, what), heard[k][what]);
-                }
-            }
+            busyAgain(x);
         });
+    }
+
+    private static void busyAgain(GridRows x) {
+        int[] told = {1, 1, 2, 2, 2, 3, 0, 1};
+        for (int what = 0; what < told.length; what++) {
+            due("told(" + what + ")", x.told(what), told[what]);
+        }
+        int[][] sent = {{1, 3, 15, 1}, {0, 1, 6, 0}};
+        for (int k = 0; k < sent.length; k++) {
+            for (int what = 0; what < 4; what++) {
+                due("sent(" + k + ", " + what + ")", x.sent(k, what), sent[k][what]);
+            }
+        }
+        int[][] heard = {{4, 5}, {6, 7}, {8, 9}};
+        for (int k = 0; k < heard.length; k++) {
+            for (int what = 0; what < 2; what++) {
+                due("heard(" + k + ", " + what + ")", x.heard(k, what), heard[k][what]);
+            }
+        }
     }
 
     private static void images() {
@@ -682,14 +708,7 @@ public final class TermsEdgesTest {
             x.drift(24, 6);
             x.end(7);
             x.goBack(0);
-            int[] told = {1, 1, 2, 2, 2, 3, 0, 1};
-            for (int what = 0; what < told.length; what++) {
-                due("told(" + what + ")", x.told(what), told[what]);
-            }
-            due("sent(0, 1)", x.sent(0, 1), 3);
-            due("sent(1, 1)", x.sent(1, 1), 1);
-            due("heard(0, 0)", x.heard(0, 0), 4);
-            due("heard(2, 1)", x.heard(2, 1), 9);
+            busyAgain(x);
         });
         Edges.sentence("IMAGES keep as much as there can be, and nothing at all", () -> {
             GridRows x = new GridRows();
