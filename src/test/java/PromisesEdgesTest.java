@@ -326,11 +326,20 @@ public final class PromisesEdgesTest {
             due("told(8), one ends there", x.told(8), 1200);
         });
         Edges.sentence("9: 8 COST of the NEAREST ROW (the farthest that can be HEARD)", () -> {
+            // with END 0 two STEPS have BITS 0, and so POINTS of FAMILY 0
+            int[][] places = {{-99, -99, 69, 69}, {-99, 99, 69, 89}, {99, -99, 89, 69}, {99, 99, 89, 89}};
+            for (int[] place : places) {
+                GridRows x = new GridRows();
+                x.end(0);
+                x.hear(place[0], place[1]);
+                x.hear(place[0], place[1]);
+                due("told(8)", x.told(8), 2 * (place[2] * place[2] + place[3] * place[3]));
+            }
             GridRows x = new GridRows();
             for (int k = 0; k < 24; k++) {
                 x.hear(-99, -99);
             }
-            due("told(8)", x.told(8), 24 * 2 * 69 * 69);
+            due("told(8) of 24", x.told(8), 24 * 2 * 69 * 69);
         });
         Edges.sentence("9: 9 unlike POINTS (none is SENT, none is HEARD)", () -> {
             due("told(9), none SENT", Edges.hearing(24).told(9), 0);

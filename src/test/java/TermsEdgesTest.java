@@ -454,12 +454,13 @@ public final class TermsEdgesTest {
                 due("turned() of the FAMILY of " + p, x.turned(x.point(p, 2)), x.point(x.point(p, 4), 2));
             }
         });
-        Edges.sentence("TURNS ALIKE (no code within the bounds does: the least and the greatest)", () -> {
+        Edges.sentence("TURNS ALIKE (no code within the bounds does)", () -> {
             for (int m = 1; m <= 3; m++) {
                 int most = (2 << m) - 1;
-                int[][] rules = {{1, 1}, {1, most}, {most, 1}, {most, most}};
-                for (int[] rule : rules) {
-                    due("told(11) of " + m + ", " + rule[0] + ", " + rule[1], Edges.coded(m, rule[0], rule[1]).told(11), 0);
+                for (int g = 1; g <= most; g++) {
+                    for (int h = 1; h <= most; h++) {
+                        due("told(11) of " + m + ", " + g + ", " + h, Edges.coded(m, g, h).told(11), 0);
+                    }
                 }
             }
         });
