@@ -15,6 +15,7 @@ public final class GridRows {
     private final Past past;
     private final Moment[] images;
     private final boolean[] kept;
+    private final Lots lots;
     private final Search search;
     private final Parting parting;
     private final Turning turning;
@@ -27,6 +28,7 @@ public final class GridRows {
             images[i] = new Moment();
         }
         kept = new boolean[IMAGES];
+        lots = new Lots();
         search = new Search();
         parting = new Parting();
         turning = new Turning();
@@ -77,7 +79,7 @@ public final class GridRows {
             return OUTSIDE;
         }
         past.push(now);
-        Lots lots = new Lots(seed);
+        lots.begin(seed);
         int done = 0;
         while (done < n && !now.row.isFull() && !now.places.isFull()) {
             int u = lots.draw(BITS);
@@ -593,7 +595,7 @@ public final class GridRows {
     private static final class Lots {
         private long x;
 
-        Lots(int seed) {
+        void begin(int seed) {
             x = seed;
         }
 

@@ -24,6 +24,9 @@ public final class FaceTest {
         "throw", "throws", "try", "catch", "synchronized", "assert", "protected", "->", "::", "System\\.out", "\\bObject\\b",
         "Random", "Thread", "Exact\\(", "instanceof", "package"};
 
+    private static final Set<String> LIBRARY = Set.of("Math.min", "Integer.bitCount", "Arrays.fill", "System.arraycopy", "util.Arrays");
+    private static final int MOST_CLASSES = 12, MOST_LINES = 60;
+
     private static int wrong = 0;
 
     private static void due(String what, Object got, Object want) {
@@ -55,6 +58,7 @@ public final class FaceTest {
             due(method + " answers", method.getReturnType(), int.class);
         }
         due("the methods", found, new TreeSet<>(Arrays.asList(METHODS)));
+        due("few classes", GridRows.class.getDeclaredClasses().length + 1 <= MOST_CLASSES, true);
         privateNames(GridRows.class, names);
         for (Class<?> inside : GridRows.class.getDeclaredClasses()) {
             due(inside + " static", Modifier.isStatic(inside.getModifiers()), true);
@@ -106,10 +110,30 @@ public final class FaceTest {
             Matcher matcher = Pattern.compile(pattern).matcher(plain);
             due("'" + word + "' in the source", matcher.find(), false);
         }
+        library(plain);
+        lengths(text);
         Matcher imports = Pattern.compile("import ([^;]*);").matcher(plain);
         while (imports.find()) {
             due("an import", imports.group(1), "java.util.Arrays");
         }
+    }
+
+    private static void library(String plain) {
+        Matcher calls = Pattern.compile("\\b(Math|Integer|Long|Arrays|System|util)\\.(\\w+)").matcher(plain);
+        while (calls.find()) {
+            due(calls.group() + " is of the library that the rules leave", LIBRARY.contains(calls.group()), true);
+        }
+    }
+
+    /** A method ends where a line closes as deep as its first line stands. */
+    private static void lengths(String text) {
+        Matcher methods = Pattern.compile("(?m)^( {4}| {8})\\S[^;=\n]*\\) \\{\n((?:(?:\\1 +\\S.*)?\n)*)\\1\\}").matcher(text);
+        int found = 0;
+        while (methods.find()) {
+            found++;
+            due("few lines: " + methods.group().trim().split("\n")[0], methods.group(2).split("\n").length <= MOST_LINES, true);
+        }
+        due("methods are found at all", found > METHODS.length, true);
     }
 
     public static void main(String[] args) throws Exception {
