@@ -2,11 +2,11 @@ import java.util.Random;
 
 /**
  * What the document tells as the least or the first of many, counted out by its own words: every ROW of up to
- * four STEPS is tried, and for FREE every two rows that part and come together again, with no search that is clever.
+ * four STEPS is tried, and for FREE every two rows that part and come together again within ten.
  */
 public final class DefinitionTest {
     private static final int NONE = -1, NEVER = 99999999, MOST_STEPS = 4;
-    /** Two rows that need more STEPS to be the least there are not: 8 is the most. */
+    /** Of 30 that the document allows; the least sum of any code comes within 8, and all 30 could not be counted out. */
     private static final int MOST_PARTED = 10;
 
     private static int wrong = 0;
